@@ -457,7 +457,7 @@ public final class Meshquiver {
         if (!knowSubmodules(module)) {
             throw new IllegalStateException();
         }
-        return search.tellStability();
+        return search.slopeKind;
     }
 
     public int filtration(int module, int step, int vertex)
@@ -1996,6 +1996,7 @@ public final class Meshquiver {
         private final int[][] greatestRows = new int[MOST_DIMENSIONS + 1][MOST_VERTICES];
         private final int[][] stepRows = new int[MOST_DIMENSIONS][MOST_VERTICES];
         private int stepCount = 0;
+        private char slopeKind = 's';
 
         private SpaceSearch(Quiver quiver, int[] weights) {
             this.quiver = quiver;
@@ -2050,7 +2051,10 @@ public final class Meshquiver {
             return found;
         }
 
-        /** Goes through all submodules for the slopes; false if there are too many ways. */
+        /**
+         * Goes through all submodules for the slopes; false if there are too many ways. What it finds
+         * out is kept, whatever is counted afterwards.
+         */
         private boolean survey(Rep whole) {
             if (countWaysOf(whole, null) > MOST_WAYS) {
                 return false;
@@ -2062,6 +2066,7 @@ public final class Meshquiver {
             wanted = null;
             choose(0);
             filter();
+            slopeKind = compareSlopes();
             return true;
         }
 
@@ -2069,7 +2074,9 @@ public final class Meshquiver {
         private void choose(int vertex) {
             if (vertex >= quiver.vertexCount) {
                 found++;
-                weigh();
+                if (wanted == null) {
+                    weigh();
+                }
                 return;
             }
             int width = module.dims[vertex];
@@ -2112,7 +2119,7 @@ public final class Meshquiver {
         }
 
         /** Slopes are compared by products across, as no dimensions are below 0. */
-        private char tellStability() {
+        private char compareSlopes() {
             char told = 's';
             int all = module.total;
             for (int d = 1; d < all; d++) {
