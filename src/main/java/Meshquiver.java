@@ -1123,7 +1123,7 @@ public final class Meshquiver {
                 total += dims[v];
             }
             for (int a = 0; a < quiver.arrowCount; a++) {
-                int count = dims[quiver.to[a]] * dims[quiver.from[a]];
+                int count = countIn(a);
                 for (int i = 0; i < count; i++) {
                     matrices[a][i] = 0;
                 }
@@ -1133,11 +1133,15 @@ public final class Meshquiver {
         private void copyFrom(Rep other) {
             shape(other.dims);
             for (int a = 0; a < quiver.arrowCount; a++) {
-                int count = dims[quiver.to[a]] * dims[quiver.from[a]];
+                int count = countIn(a);
                 for (int i = 0; i < count; i++) {
                     matrices[a][i] = other.matrices[a][i];
                 }
             }
+        }
+
+        private int countIn(int arrow) {
+            return dims[quiver.to[arrow]] * dims[quiver.from[arrow]];
         }
 
         private int at(int arrow, int row, int column) {
@@ -1217,7 +1221,7 @@ public final class Meshquiver {
                 sum = 31 * sum + dims[v];
             }
             for (int a = 0; a < quiver.arrowCount; a++) {
-                int count = dims[quiver.to[a]] * dims[quiver.from[a]];
+                int count = countIn(a);
                 for (int i = 0; i < count; i++) {
                     sum = 31 * sum + matrices[a][i];
                 }
@@ -1228,7 +1232,7 @@ public final class Meshquiver {
         private int countNumbers(boolean isForZeros) {
             int numbers = 0;
             for (int a = 0; a < quiver.arrowCount; a++) {
-                int count = dims[quiver.to[a]] * dims[quiver.from[a]];
+                int count = countIn(a);
                 for (int i = 0; i < count; i++) {
                     if (!isForZeros || matrices[a][i] == 0) {
                         numbers++;
@@ -1316,6 +1320,18 @@ public final class Meshquiver {
             }
         }
 
+        /**
+         * The number at a column of the solution that is 1 at a column where no row begins, and 0 at
+         * all others of these, the rows being equations.
+         */
+        private int solve(int free, int column) {
+            int row = rowOf[column];
+            if (row < 0) {
+                return column == free ? 1 : 0;
+            }
+            return residue(quiver.prime - rows[row][free], quiver.prime);
+        }
+
         private int rankOf(Rep module, int arrow) {
             begin(module.dims[quiver.from[arrow]]);
             takeRows(module, arrow);
@@ -1398,11 +1414,8 @@ public final class Meshquiver {
             for (int free = 0; free < echelon.width; free++) {
                 if (echelon.rowOf[free] < 0) {
                     for (int c = 0; c < echelon.width; c++) {
-                        int row = echelon.rowOf[c];
-                        int value = row < 0 ? 0 : quiver.prime - echelon.rows[row][free];
-                        vectors[vertex][size * MOST_AT_VERTEX + c] = residue(value, quiver.prime);
+                        vectors[vertex][size * MOST_AT_VERTEX + c] = echelon.solve(free, c);
                     }
-                    vectors[vertex][size * MOST_AT_VERTEX + free] = 1;
                     marks[vertex][size] = free;
                     size++;
                 }
@@ -1550,11 +1563,8 @@ public final class Meshquiver {
             for (int free = 0; free < size && count < MOST_BASIC_MAPS; free++) {
                 if (echelon.rowOf[free] < 0) {
                     for (int c = 0; c < size; c++) {
-                        int row = echelon.rowOf[c];
-                        int value = row < 0 ? 0 : quiver.prime - echelon.rows[row][free];
-                        basis[count][c] = residue(value, quiver.prime);
+                        basis[count][c] = echelon.solve(free, c);
                     }
-                    basis[count][free] = 1;
                     factors[count] = 0;
                     count++;
                 }
@@ -1920,11 +1930,8 @@ public final class Meshquiver {
             for (int free = 0; free < coverDims[vertex]; free++) {
                 if (echelon.rowOf[free] < 0) {
                     for (int c = 0; c < coverDims[vertex]; c++) {
-                        int row = echelon.rowOf[c];
-                        int value = row < 0 ? 0 : quiver.prime - echelon.rows[row][free];
-                        kernels[vertex][size * MOST_COVER + c] = residue(value, quiver.prime);
+                        kernels[vertex][size * MOST_COVER + c] = echelon.solve(free, c);
                     }
-                    kernels[vertex][size * MOST_COVER + free] = 1;
                     kernelMarks[vertex][size] = free;
                     size++;
                 }
@@ -2256,7 +2263,7 @@ public final class Meshquiver {
                 for (int time = 0; time < ROOT_ROOM && index >= 0; time++) {
                     orbitVertices[index] = v;
                     orbitTimes[index] = time;
-                    fillNext(rows[index]);
+                    move(rows[index], false);
                     index = findRow();
                 }
             }
@@ -2277,33 +2284,25 @@ public final class Meshquiver {
         }
 
         /**
-         * Composes the row whose translate is given. The numbers of paths are the inverse of the
-         * form's matrix, by which the equation of the translate is solved for either row.
+         * Composes the translate of a row, or the row whose translate it is. The numbers of paths are
+         * the inverse of the form's matrix, by which the equation is solved for either row.
          */
-        private void fillNext(int[] given) {
-            for (int u = 0; u < MOST_VERTICES; u++) {
-                markBasic(u);
-                pulled[u] = u < quiver.vertexCount ? quiver.formOf(basic, given) : 0;
+        private void move(int[] given, boolean isBack) {
+            for (int v = 0; v < MOST_VERTICES; v++) {
+                markBasic(v);
+                int form = isBack ? quiver.formOf(given, basic) : quiver.formOf(basic, given);
+                pulled[v] = v < quiver.vertexCount ? form : 0;
             }
             for (int v = 0; v < MOST_VERTICES; v++) {
                 row[v] = 0;
                 for (int u = 0; u < MOST_VERTICES; u++) {
-                    row[v] -= table.pairs[u][v] * pulled[u];
+                    row[v] -= (isBack ? table.pairs[v][u] : table.pairs[u][v]) * pulled[u];
                 }
             }
         }
 
         private int findTranslate(int index) {
-            for (int v = 0; v < MOST_VERTICES; v++) {
-                markBasic(v);
-                pulled[v] = v < quiver.vertexCount ? quiver.formOf(rows[index], basic) : 0;
-            }
-            for (int u = 0; u < MOST_VERTICES; u++) {
-                row[u] = 0;
-                for (int v = 0; v < MOST_VERTICES; v++) {
-                    row[u] -= table.pairs[u][v] * pulled[v];
-                }
-            }
+            move(rows[index], true);
             return findRow();
         }
 

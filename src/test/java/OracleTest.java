@@ -181,7 +181,7 @@ public final class OracleTest {
                 both("piece(" + m + ", " + i + ", " + v + ")", () -> x.piece(m, i, v), () -> y.piece(m, i, v));
             }
             case 10, 11 -> {
-                int t = chance(4) ? below(12) - 3 : below(4);
+                int t = chance(4) ? below(12) - 3 : chance(25) ? below(7) : below(4);
                 both("syzygy(" + m + ", " + t + ", " + v + ")",
                         () -> x.syzygy(m, t, v), () -> y.syzygy(m, t, v));
             }
@@ -227,14 +227,13 @@ public final class OracleTest {
             case 6 -> both("mesh(" + i + ", " + j + ")", () -> x.mesh(i, j), () -> y.mesh(i, j));
             case 7 -> both("tilting()", () -> x.tilting(), () -> y.tilting());
             case 8, 9 -> askTilting();
-            case 10 -> both("turn(" + v + ")", () -> x.turn(v), () -> y.turn(v));
+            case 10 -> turn();
             case 11 -> both("turned(" + v + ", " + w + ")", () -> x.turned(v, w), () -> y.turned(v, w));
             case 12 -> both("frieze(" + v + ")", () -> x.frieze(v), () -> y.frieze(v));
             case 13 -> both("paths(" + v + ", " + w + ")", () -> x.paths(v, w), () -> y.paths(v, w));
             case 14 -> both("isFinite()", () -> x.isFinite(), () -> y.isFinite());
             case 15 -> {
-                int number = chance(3) ? below(30) - 15 : below(19) - 9;
-                both("weight(" + v + ", " + number + ")", () -> x.weight(v, number), () -> y.weight(v, number));
+                weight(v);
             }
             default -> {
                 clearRow();
@@ -245,6 +244,19 @@ public final class OracleTest {
                 both("form()", () -> x.form(), () -> y.form());
             }
         }
+    }
+
+    private static void weight(int v) {
+        int number = chance(3) ? below(30) - 15 : below(19) - 9;
+        both("weight(" + v + ", " + number + ")", () -> x.weight(v, number), () -> y.weight(v, number));
+    }
+
+    private static void turn() {
+        int v = vertex();
+        int w = vertex();
+        both("turn(" + v + ")", () -> x.turn(v), () -> y.turn(v));
+        both("turned(" + v + ", " + w + ")", () -> x.turned(v, w), () -> y.turned(v, w));
+        both("frieze(" + v + ")", () -> x.frieze(v), () -> y.frieze(v));
     }
 
     /** Mutates a tilting set that is found first, as most sets are none. */
@@ -280,9 +292,6 @@ public final class OracleTest {
         if (style == 0) {
             for (int v = 0; v + 1 < n; v++) {
                 addArrow(chance(50) ? v : v + 1, v);
-                if (chance(90)) {
-                    y.arrows.isEmpty();
-                }
             }
         } else if (style == 1) {
             for (int v = 0; v + 1 < n; v++) {
@@ -317,6 +326,12 @@ public final class OracleTest {
         y = new Reference();
         LOG.clear();
         build();
+        for (int v = 0; v < y.n && chance(60); v++) {
+            weight(v);
+        }
+        for (int k = chance(20) ? 25 : 0; k > 0; k--) {
+            turn();
+        }
         int goal = 1 + below(9);
         for (int k = 0; k < goal; k++) {
             randomModule();
