@@ -1718,9 +1718,9 @@ public final class Meshquiver {
         }
 
         /**
-         * Looks, among the maps measured last, for a map to itself that is neither invertible nor, often enough taken, 0: the fourth
-         * power of it, as no dimension is above 4, splits the module into its image and its kernel,
-         * and a module that can be split has such a map, one that is its own square.
+         * Looks, among the maps measured last, for one that is neither invertible nor 0 once it is
+         * taken often enough: its fourth power, as no dimension is above 4, splits the module into
+         * image and kernel. A module that can be split has such a map: one that is its own square.
          */
         private boolean findSplit(Rep module) {
             maps.beginMaps();

@@ -35,20 +35,31 @@ public final class OracleTest {
         Check.due("run " + run + ": " + name, () -> got, due);
     }
 
+    private static final int[] STRANGE = {Integer.MIN_VALUE, Integer.MIN_VALUE + 1, -1, 31, 32, 63, 64,
+        1 << 16, 1 << 30, Integer.MAX_VALUE - 1, Integer.MAX_VALUE};
+
+    /** An index that is there, mostly; now and then one just beyond, or one far away. */
+    private static int index(int count) {
+        if (chance(1)) {
+            return STRANGE[below(STRANGE.length)];
+        }
+        return chance(2) ? below(count + 4) - 2 : below(Math.max(1, count));
+    }
+
     private static int vertex() {
-        return chance(3) ? below(9) - 2 : below(Math.max(1, y.n));
+        return index(y.n);
     }
 
     private static int arrow() {
-        return chance(3) ? below(10) - 2 : below(Math.max(1, y.arrows.size()));
+        return index(y.arrows.size());
     }
 
     private static int mod() {
-        return chance(3) ? below(16) - 2 : below(Math.max(1, y.mods.size()));
+        return index(y.mods.size());
     }
 
     private static int root() {
-        return chance(5) ? below(40) - 4 : below(12);
+        return index(chance(20) ? 24 : 12);
     }
 
     private static void type(int number) {
@@ -78,9 +89,9 @@ public final class OracleTest {
                     next.add(a);
                 }
             }
-            int a = next.isEmpty() || chance(3) ? below(8) : next.get(below(next.size()));
+            int a = next.isEmpty() || chance(3) ? index(8) : next.get(below(next.size()));
             type(a);
-            at = a < y.arrows.size() ? y.toOf(a) : -1;
+            at = y.isA(a) ? y.toOf(a) : -1;
         }
     }
 
@@ -152,9 +163,9 @@ public final class OracleTest {
     }
 
     private static void entry(int m, int a, int rows, int columns) {
-        int r = chance(3) ? below(6) - 1 : below(Math.max(1, rows));
-        int c = chance(3) ? below(6) - 1 : below(Math.max(1, columns));
-        int value = chance(2) ? below(30) - 15 : below(5) - 1;
+        int r = index(rows);
+        int c = index(columns);
+        int value = chance(2) ? index(15) : below(5) - 1;
         both("entry(" + m + ", " + a + ", " + r + ", " + c + ", " + value + ")",
                 () -> x.entry(m, a, r, c, value), () -> y.entry(m, a, r, c, value));
         both("entryAt", () -> x.entryAt(m, a, r, c), () -> y.entryAt(m, a, r, c));
@@ -177,11 +188,11 @@ public final class OracleTest {
             case 6 -> both("areAlike" + with, () -> x.areAlike(m, o), () -> y.areAlike(m, o));
             case 7 -> both("pieces(" + m + ")", () -> x.pieces(m), () -> y.pieces(m));
             case 8, 9 -> {
-                int i = below(5) - (chance(10) ? 1 : 0);
+                int i = index(4);
                 both("piece(" + m + ", " + i + ", " + v + ")", () -> x.piece(m, i, v), () -> y.piece(m, i, v));
             }
             case 10, 11 -> {
-                int t = chance(4) ? below(12) - 3 : chance(25) ? below(7) : below(4);
+                int t = chance(25) ? index(7) : index(4);
                 both("syzygy(" + m + ", " + t + ", " + v + ")",
                         () -> x.syzygy(m, t, v), () -> y.syzygy(m, t, v));
             }
@@ -193,7 +204,7 @@ public final class OracleTest {
             }
             case 17 -> both("stability(" + m + ")", () -> x.stability(m), () -> y.stability(m));
             case 18 -> {
-                int s = below(3) - (chance(10) ? 1 : 0);
+                int s = index(3);
                 both("filtration(" + m + ", " + s + ", " + v + ")",
                         () -> x.filtration(m, s, v), () -> y.filtration(m, s, v));
             }
@@ -247,7 +258,7 @@ public final class OracleTest {
     }
 
     private static void weight(int v) {
-        int number = chance(3) ? below(30) - 15 : below(19) - 9;
+        int number = chance(5) ? index(20) : below(19) - 9;
         both("weight(" + v + ", " + number + ")", () -> x.weight(v, number), () -> y.weight(v, number));
     }
 
@@ -261,7 +272,7 @@ public final class OracleTest {
 
     /** Mutates a tilting set that is found first, as most sets are none. */
     private static void askTilting() {
-        int set = chance(10) ? below(1 << 20) - below(100) : 0;
+        int set = chance(10) ? index(1 << 20) : 0;
         if (Check.told(() -> y.roots()).startsWith("throws")) {
             set = below(100);
         } else if (set == 0) {
@@ -317,7 +328,7 @@ public final class OracleTest {
         for (int k = 0; k < zeros; k++) {
             zero();
         }
-        int prime = chance(10) ? below(9) : new int[] {2, 2, 3, 5}[below(4)];
+        int prime = chance(10) ? index(9) : new int[] {2, 2, 3, 5}[below(4)];
         both("field(" + prime + ")", () -> x.field(prime), () -> y.field(prime));
     }
 
