@@ -1026,7 +1026,7 @@ public final class Meshquiver {
                 firsts[v] = NONE;
                 rests[v] = NONE;
             }
-            for (int path = 0; path < size && isBounded; path++) {
+            for (int path = 0; path < MOST_PATHS && path < size; path++) {
                 for (int a = 0; a < quiver.arrowCount; a++) {
                     children[path][a] = lengthen(path, a);
                 }
