@@ -1504,8 +1504,8 @@ public final class Meshquiver {
         private final int[][] basis = new int[MOST_BASIC_MAPS][MAP_ROOM];
         private final int[] factors = new int[MOST_BASIC_MAPS];
         private final int[] map = new int[MAP_ROOM];
-        private Rep source = null;
-        private Rep target = null;
+        private Rep source;
+        private Rep target;
         private int size = 0;
         private int dimension = 0;
 
@@ -1513,6 +1513,8 @@ public final class Meshquiver {
             this.quiver = quiver;
             this.echelon = echelon;
             small = new Echelon(quiver, MOST_AT_VERTEX);
+            source = new Rep(quiver, 0);
+            target = source;
         }
 
         private int measure(Rep one, Rep other) {
@@ -1806,7 +1808,7 @@ public final class Meshquiver {
         /** Syzygies take turns in these two. */
         private final Rep odd;
         private final Rep even;
-        private Rep current = null;
+        private Rep current;
         private int steps = 0;
         /** How many projective modules of each vertex the cover has. */
         private final int[] generators = new int[MOST_VERTICES];
@@ -1829,6 +1831,7 @@ public final class Meshquiver {
             this.maps = maps;
             odd = new Rep(quiver, MOST_COVER);
             even = new Rep(quiver, MOST_COVER);
+            current = even;
         }
 
         /** Takes the syzygy so many times; false if a cover that is met is too great. */
@@ -1993,7 +1996,7 @@ public final class Meshquiver {
         private final Quiver quiver;
         private final int[] weights;
         private final Spaces spaces;
-        private Rep module = null;
+        private Rep module;
         /** The dimensions to take, or null for all. */
         private int[] wanted = null;
         private int found = 0;
@@ -2009,6 +2012,7 @@ public final class Meshquiver {
             this.quiver = quiver;
             this.weights = weights;
             spaces = new Spaces(quiver);
+            module = new Rep(quiver, 0);
         }
 
         /** The ways to take a space of given dimensions, or of any if none are given. */
@@ -2053,7 +2057,7 @@ public final class Meshquiver {
             found = 0;
             // Without a way there is none; the search would go through those of the first vertices.
             if (countWaysOf(whole, dims) > 0) {
-                choose(0);
+                choose(this, 0);
             }
             return found;
         }
@@ -2071,32 +2075,38 @@ public final class Meshquiver {
             }
             module = whole;
             wanted = null;
-            choose(0);
+            choose(this, 0);
             filter();
             slopeKind = compareSlopes();
             return true;
         }
 
         /** Takes each space at a vertex, then at the next ones: five levels at most. */
-        private void choose(int vertex) {
-            if (vertex >= quiver.vertexCount) {
-                found++;
-                if (wanted == null) {
-                    weigh();
-                }
+        private static void choose(SpaceSearch search, int vertex) {
+            if (vertex >= search.quiver.vertexCount) {
+                search.takeSubmodule();
                 return;
             }
-            int width = module.dims[vertex];
+            int width = search.module.dims[vertex];
             for (int mask = 0; mask < 1 << width; mask++) {
-                if (wanted == null || Integer.bitCount(mask) == wanted[vertex]) {
-                    int fillings = countFillings(width, mask);
-                    for (int filling = 0; filling < fillings; filling++) {
-                        spaces.keepReduced(vertex, width, mask, filling);
-                        if (isClosedUpTo(vertex)) {
-                            choose(vertex + 1);
-                        }
+                int fillings = search.isWanted(vertex, mask) ? search.countFillings(width, mask) : 0;
+                for (int filling = 0; filling < fillings; filling++) {
+                    search.spaces.keepReduced(vertex, width, mask, filling);
+                    if (search.isClosedUpTo(vertex)) {
+                        choose(search, vertex + 1);
                     }
                 }
+            }
+        }
+
+        private boolean isWanted(int vertex, int mask) {
+            return wanted == null || Integer.bitCount(mask) == wanted[vertex];
+        }
+
+        private void takeSubmodule() {
+            found++;
+            if (wanted == null) {
+                weigh();
             }
         }
 
@@ -2214,7 +2224,7 @@ public final class Meshquiver {
                     joins[v][w] = quiver.countArrows(v, w) + quiver.countArrows(w, v);
                 }
             }
-            tryRows(0, 0, 0);
+            tryRows(this, 0, 0, 0);
             if (lowest > 0) {
                 sortRows(rows, count);
                 findOrbits();
@@ -2223,20 +2233,20 @@ public final class Meshquiver {
         }
 
         /** Goes through all rows, vertex by vertex: five levels at most. */
-        private void tryRows(int vertex, int form, int all) {
-            if (vertex >= quiver.vertexCount) {
+        private static void tryRows(RootTable roots, int vertex, int form, int all) {
+            if (vertex >= roots.quiver.vertexCount) {
                 if (all > 0) {
-                    keepRow(form);
+                    roots.keepRow(form);
                 }
                 return;
             }
             int joined = 0;
             for (int v = 0; v < vertex; v++) {
-                joined += joins[v][vertex] * row[v];
+                joined += roots.joins[v][vertex] * roots.row[v];
             }
             for (int number = 0; number <= GREATEST_ROOT_NUMBER; number++) {
-                row[vertex] = number;
-                tryRows(vertex + 1, form + number * number - number * joined, all + number);
+                roots.row[vertex] = number;
+                tryRows(roots, vertex + 1, form + number * number - number * joined, all + number);
             }
         }
 
@@ -2331,18 +2341,18 @@ public final class Meshquiver {
         }
 
         private int countTilting() {
-            return countSets((1 << count) - 1, 0, quiver.vertexCount);
+            return countSets(this, (1 << count) - 1, 0, quiver.vertexCount);
         }
 
         /** Adds root by root, in their order, to a set without extensions: five levels at most. */
-        private int countSets(int allowed, int first, int left) {
+        private static int countSets(RootTable roots, int allowed, int first, int left) {
             if (left <= 0) {
                 return 1;
             }
             int sets = 0;
-            for (int i = first; i < count; i++) {
+            for (int i = first; i < roots.count; i++) {
                 if ((allowed >> i & 1) == 1) {
-                    sets += countSets(allowed & friends[i], i + 1, left - 1);
+                    sets += countSets(roots, allowed & roots.friends[i], i + 1, left - 1);
                 }
             }
             return sets;

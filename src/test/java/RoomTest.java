@@ -30,7 +30,9 @@ public final class RoomTest {
         long made = allocated() - start;
         Check.isTrue("calls make nothing, and made " + made + " bytes", made < 2000);
         measure(y);
-        Check.due("a house does not grow", () -> objects + numbers, before);
+        // It may let go of the empty modules that it begins with.
+        int after = objects + numbers;
+        Check.isTrue("a house does not grow, from " + before + " to " + after, after <= before);
         Check.finish();
     }
 
