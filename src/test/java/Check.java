@@ -73,6 +73,26 @@ final class Check {
         }
     }
 
+    /** The matrix of an arrow as a text, row by row. */
+    static String matrix(Meshquiver x, int module, int arrow, int rows, int columns) {
+        StringBuilder text = new StringBuilder();
+        for (int i = 0; i < rows; i++) {
+            for (int j = 0; j < columns; j++) {
+                text.append(x.entryAt(module, arrow, i, j));
+            }
+            text.append(i + 1 < rows ? "/" : "");
+        }
+        return text.toString();
+    }
+
+    static String dims(Meshquiver x, int module, int vertices) {
+        StringBuilder text = new StringBuilder();
+        for (int v = 0; v < vertices; v++) {
+            text.append(x.dimension(module, v));
+        }
+        return text.toString();
+    }
+
     static void finish() {
         System.out.println(checked - wrong + " answers as due, " + wrong + " not");
         if (wrong > 0) {

@@ -21,26 +21,6 @@ public final class ModuleTest {
         Check.finish();
     }
 
-    /** The matrix of an arrow as a text, row by row. */
-    private static String matrix(Meshquiver x, int module, int arrow, int rows, int columns) {
-        StringBuilder text = new StringBuilder();
-        for (int i = 0; i < rows; i++) {
-            for (int j = 0; j < columns; j++) {
-                text.append(x.entryAt(module, arrow, i, j));
-            }
-            text.append(i + 1 < rows ? "/" : "");
-        }
-        return text.toString();
-    }
-
-    private static String dims(Meshquiver x, int module, int vertices) {
-        StringBuilder text = new StringBuilder();
-        for (int v = 0; v < vertices; v++) {
-            text.append(x.dimension(module, v));
-        }
-        return text.toString();
-    }
-
     private static void module() {
         Meshquiver x = Check.quiver(3, 0, 1);
         Check.type(x, 4, 4, 2);
@@ -56,7 +36,7 @@ public final class ModuleTest {
         Check.type(x, 1, 1, 0, 0);
         Check.due("P11 too many", () -> x.module(), IAE);
         Check.due("P11 the zero module", () -> Check.module(x, 0, 0, 0), 1);
-        Check.due("P11 its matrices are 0", () -> matrix(x, 0, 0, 4, 4), "0000/0000/0000/0000");
+        Check.due("P11 its matrices are 0", () -> Check.matrix(x, 0, 0, 4, 4), "0000/0000/0000/0000");
         for (int i = 2; i < 12; i++) {
             Check.module(x, 0, 1, 0);
         }
@@ -88,7 +68,7 @@ public final class ModuleTest {
         }
         Check.due("P13 no such row", () -> x.entryAt(0, 0, -1, 0), IOOBE);
         Check.due("P13 no such column", () -> x.entryAt(0, 0, 0, -1), IOOBE);
-        Check.due("P13 the others are untouched", () -> matrix(x, 0, 0, 3, 2), "00/00/01");
+        Check.due("P13 the others are untouched", () -> Check.matrix(x, 0, 0, 3, 2), "00/00/01");
         Meshquiver y = Check.quiver(1, 0, 0);
         y.field(3);
         Check.module(y, 1);
@@ -127,7 +107,7 @@ public final class ModuleTest {
     private static void simple() {
         Meshquiver x = Check.quiver(3, 0, 1, 1, 1);
         Check.due("P15 simple", () -> x.simple(1), 0);
-        Check.due("P15 its dimensions", () -> dims(x, 0, 3), "010");
+        Check.due("P15 its dimensions", () -> Check.dims(x, 0, 3), "010");
         Check.due("P15 a loop is 0 there", () -> x.entryAt(0, 1, 0, 0), 0);
         Check.due("P15 no such vertex", () -> x.simple(3), IOOBE);
         Check.due("P15 no such vertex", () -> x.simple(-1), IOOBE);
@@ -141,24 +121,24 @@ public final class ModuleTest {
     private static void projective() {
         Meshquiver x = Check.quiver(3, 0, 1, 0, 1, 1, 2, 0, 2);
         Check.due("P16 projective", () -> x.projective(0), 0);
-        Check.due("P16 dimensions by paths", () -> dims(x, 0, 3), "123");
-        Check.due("P16 the first arrow", () -> matrix(x, 0, 0, 2, 1), "1/0");
-        Check.due("P16 the second arrow", () -> matrix(x, 0, 1, 2, 1), "0/1");
-        Check.due("P16 the shorter path is first", () -> matrix(x, 0, 3, 3, 1), "1/0/0");
-        Check.due("P16 longer ones behind it", () -> matrix(x, 0, 2, 3, 2), "00/10/01");
-        Check.due("P16 of the last vertex", () -> dims(x, x.projective(2), 3), "001");
+        Check.due("P16 dimensions by paths", () -> Check.dims(x, 0, 3), "123");
+        Check.due("P16 the first arrow", () -> Check.matrix(x, 0, 0, 2, 1), "1/0");
+        Check.due("P16 the second arrow", () -> Check.matrix(x, 0, 1, 2, 1), "0/1");
+        Check.due("P16 the shorter path is first", () -> Check.matrix(x, 0, 3, 3, 1), "1/0/0");
+        Check.due("P16 longer ones behind it", () -> Check.matrix(x, 0, 2, 3, 2), "00/10/01");
+        Check.due("P16 of the last vertex", () -> Check.dims(x, x.projective(2), 3), "001");
         Check.due("P16 no such vertex", () -> x.projective(3), IOOBE);
         x.clearModules();
         Check.type(x, 0, 2);
         x.zero();
         x.projective(0);
-        Check.due("P16 a zero path", () -> matrix(x, 0, 2, 2, 2), "00/01");
+        Check.due("P16 a zero path", () -> Check.matrix(x, 0, 2, 2, 2), "00/01");
         Meshquiver loop = Check.quiver(1, 0, 0);
         Check.due("P16 not finite", () -> loop.projective(0), UOE);
         Check.type(loop, 0, 0, 0, 0);
         loop.zero();
         Check.due("P16 four paths", () -> loop.projective(0), 0);
-        Check.due("P16 a loop", () -> matrix(loop, 0, 0, 4, 4), "0000/1000/0100/0010");
+        Check.due("P16 a loop", () -> Check.matrix(loop, 0, 0, 4, 4), "0000/1000/0100/0010");
         Meshquiver wide = Check.quiver(2, 0, 1, 0, 1, 0, 1, 0, 1, 0, 1);
         Check.due("P16 five at a vertex", () -> wide.projective(0), UOE);
         Check.due("P16 one is not too great", () -> wide.projective(1), 0);
@@ -176,19 +156,19 @@ public final class ModuleTest {
     private static void injective() {
         Meshquiver x = Check.quiver(3, 0, 1, 0, 1, 1, 2, 0, 2);
         Check.due("P17 injective", () -> x.injective(2), 0);
-        Check.due("P17 dimensions by paths", () -> dims(x, 0, 3), "311");
-        Check.due("P17 an arrow that begins a path", () -> matrix(x, 0, 0, 1, 3), "010");
-        Check.due("P17 the other one", () -> matrix(x, 0, 1, 1, 3), "001");
-        Check.due("P17 the short one", () -> matrix(x, 0, 3, 1, 3), "100");
-        Check.due("P17 the last arrow", () -> matrix(x, 0, 2, 1, 1), "1");
-        Check.due("P17 of the first vertex", () -> dims(x, x.injective(0), 3), "100");
+        Check.due("P17 dimensions by paths", () -> Check.dims(x, 0, 3), "311");
+        Check.due("P17 an arrow that begins a path", () -> Check.matrix(x, 0, 0, 1, 3), "010");
+        Check.due("P17 the other one", () -> Check.matrix(x, 0, 1, 1, 3), "001");
+        Check.due("P17 the short one", () -> Check.matrix(x, 0, 3, 1, 3), "100");
+        Check.due("P17 the last arrow", () -> Check.matrix(x, 0, 2, 1, 1), "1");
+        Check.due("P17 of the first vertex", () -> Check.dims(x, x.injective(0), 3), "100");
         Check.due("P17 no such vertex", () -> x.injective(-1), IOOBE);
         Meshquiver loop = Check.quiver(1, 0, 0);
         Check.due("P17 not finite", () -> loop.injective(0), UOE);
         Check.type(loop, 0, 0, 0);
         loop.zero();
         loop.injective(0);
-        Check.due("P17 a loop takes away", () -> matrix(loop, 0, 0, 3, 3), "010/001/000");
+        Check.due("P17 a loop takes away", () -> Check.matrix(loop, 0, 0, 3, 3), "010/001/000");
         Meshquiver wide = Check.quiver(2, 0, 1, 0, 1, 0, 1, 0, 1, 0, 1);
         Check.due("P17 five at a vertex", () -> wide.injective(1), UOE);
         Check.due("P17 the vertex comes first", () -> wide.injective(2), IOOBE);
@@ -197,16 +177,16 @@ public final class ModuleTest {
     private static void string() {
         Meshquiver x = Check.quiver(3, 0, 1, 2, 1, 1, 1);
         Check.due("P18 no step", () -> x.string(2), 0);
-        Check.due("P18 a simple one", () -> dims(x, 0, 3), "001");
+        Check.due("P18 a simple one", () -> Check.dims(x, 0, 3), "001");
         Check.type(x, 1, 3, -2);
         Check.due("P18 along, round and against", () -> x.string(0), 1);
-        Check.due("P18 its places", () -> dims(x, 1, 3), "121");
-        Check.due("P18 along", () -> matrix(x, 1, 0, 2, 1), "1/0");
-        Check.due("P18 against", () -> matrix(x, 1, 1, 2, 1), "0/1");
-        Check.due("P18 the loop", () -> matrix(x, 1, 2, 2, 2), "00/10");
+        Check.due("P18 its places", () -> Check.dims(x, 1, 3), "121");
+        Check.due("P18 along", () -> Check.matrix(x, 1, 0, 2, 1), "1/0");
+        Check.due("P18 against", () -> Check.matrix(x, 1, 1, 2, 1), "0/1");
+        Check.due("P18 the loop", () -> Check.matrix(x, 1, 2, 2, 2), "00/10");
         Check.type(x, 1, -3, -2);
         x.string(0);
-        Check.due("P18 the loop against", () -> matrix(x, 2, 2, 2, 2), "01/00");
+        Check.due("P18 the loop against", () -> Check.matrix(x, 2, 2, 2, 2), "01/00");
         int[][] noWalks = {{2}, {-1}, {1, 1}, {0}, {1, 0}, {4}, {-9}, {1, -2, 1}, {9}};
         for (int[] steps : noWalks) {
             Check.type(x, steps);
@@ -263,9 +243,9 @@ public final class ModuleTest {
         Check.module(x, 2, 1);
         Check.fill(x, 1, 0, 2, 2, 1);
         Check.due("P19 sum", () -> x.sum(0, 1), 2);
-        Check.due("P19 the first one's basis first", () -> matrix(x, 2, 0, 3, 3), "100/200/021");
-        Check.due("P19 the other way", () -> matrix(x, x.sum(1, 0), 0, 3, 3), "210/001/002");
-        Check.due("P19 with itself", () -> matrix(x, x.sum(0, 0), 0, 4, 2), "10/20/01/02");
+        Check.due("P19 the first one's basis first", () -> Check.matrix(x, 2, 0, 3, 3), "100/200/021");
+        Check.due("P19 the other way", () -> Check.matrix(x, x.sum(1, 0), 0, 3, 3), "210/001/002");
+        Check.due("P19 with itself", () -> Check.matrix(x, x.sum(0, 0), 0, 4, 2), "10/20/01/02");
         Check.due("P19 five at a vertex", () -> x.sum(2, 2), UOE);
         Check.due("P19 no such module", () -> x.sum(5, 0), IOOBE);
         Check.due("P19 no such module", () -> x.sum(0, -1), IOOBE);
