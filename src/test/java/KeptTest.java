@@ -9,6 +9,7 @@ public final class KeptTest {
         betweenModules();
         barsBetweenModules();
         behindWeights();
+        weightsThatStay();
         behindSubmodules();
         behindFields();
         rootsOfGrowingQuivers();
@@ -153,6 +154,23 @@ public final class KeptTest {
             Check.due("one is unlike", () -> y.stability(0), 'u');
             Check.due("two steps", () -> steps(y, 0, 5), weight > 0 ? "22220 00002" : "00002 22220");
         }
+    }
+
+    /** Weights stay, whatever is added; a new vertex has 0. */
+    private static void weightsThatStay() {
+        Meshquiver x = Check.quiver(1);
+        Check.due("0 at first", () -> x.weight(0, 9), 0);
+        x.vertex();
+        x.arrow(0, 1);
+        x.simple(0);
+        x.turn(0);
+        x.clearModules();
+        x.field(3);
+        Check.due("0 at first at a new vertex", () -> x.weight(1, -9), 0);
+        Check.due("kept at the other", () -> x.weight(0, 0), 9);
+        Check.due("0 is a weight as any other", () -> x.weight(0, -9), 0);
+        Check.due("-9 and -9", () -> x.weight(0, -9), -9);
+        Check.due("kept at the new one", () -> x.weight(1, 9), -9);
     }
 
     /** Counting submodules goes the same ways as slopes do, with other dimensions. */
