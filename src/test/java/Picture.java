@@ -10,8 +10,9 @@ final class Picture {
 
     static String of(Meshquiver x) {
         StringBuilder text = new StringBuilder();
-        addQuiver(x, text);
-        addModules(x, text);
+        int vertices = countVertices(x);
+        addQuiver(x, text, vertices);
+        addModules(x, text, vertices);
         for (int i = 0; i < BEYOND; i++) {
             int v = i;
             String before = Check.told(() -> x.weight(v, 0));
@@ -22,7 +23,7 @@ final class Picture {
         }
         add(text, "modules", Check.told(() -> x.clearModules()));
         add(text, "field", Check.told(() -> x.field(2)));
-        addRow(x, text);
+        addRow(x, text, vertices);
         addRoom(x, text);
         return text.toString();
     }
@@ -31,17 +32,17 @@ final class Picture {
         text.append(name).append(' ').append(told.replace("throws.", "!")).append("; ");
     }
 
-    private static void addQuiver(Meshquiver x, StringBuilder text) {
+    private static void addQuiver(Meshquiver x, StringBuilder text, int vertices) {
         add(text, "finite", Check.told(() -> x.isFinite()));
         add(text, "kind", Check.told(() -> x.kind()));
         add(text, "roots", Check.told(() -> x.roots()));
         add(text, "orbit", Check.told(() -> x.orbit(0)));
         add(text, "tilting", Check.told(() -> x.tilting()));
         add(text, "consistent", Check.told(() -> x.isConsistent()));
-        for (int i = 0; i < countVertices(x); i++) {
+        for (int i = 0; i < vertices; i++) {
             int v = i;
             add(text, "frieze", Check.told(() -> x.frieze(v)));
-            for (int j = 0; j < countVertices(x); j++) {
+            for (int j = 0; j < vertices; j++) {
                 int w = j;
                 add(text, "b", Check.told(() -> x.turned(v, w)));
                 add(text, "paths", Check.told(() -> x.paths(v, w)));
@@ -49,14 +50,15 @@ final class Picture {
         }
     }
 
-    private static void addModules(Meshquiver x, StringBuilder text) {
+    private static void addModules(Meshquiver x, StringBuilder text, int vertices) {
         for (int i = 0; i <= 12; i++) {
             int m = i;
-            add(text, "checksum", Check.told(() -> x.checksum(m)));
-            if (Check.told(() -> x.checksum(m)).startsWith("throws")) {
+            String sum = Check.told(() -> x.checksum(m));
+            add(text, "checksum", sum);
+            if (sum.startsWith("throws")) {
                 return;
             }
-            for (int j = 0; j < countVertices(x); j++) {
+            for (int j = 0; j < vertices; j++) {
                 int v = j;
                 add(text, "dimension", Check.told(() -> x.dimension(m, v)));
             }
@@ -79,11 +81,11 @@ final class Picture {
     }
 
     /** The row is told by what type() counts, and by a form for which it is filled up. */
-    private static void addRow(Meshquiver x, StringBuilder text) {
+    private static void addRow(Meshquiver x, StringBuilder text, int before) {
         String told = Check.told(() -> x.type(7));
         add(text, "typed", told);
         int count = told.startsWith("throws") ? 8 : Integer.parseInt(told);
-        int vertices = countVertices(x);
+        int vertices = before;
         while (vertices < 4 && 2 * vertices < count) {
             x.vertex();
             vertices++;

@@ -158,8 +158,8 @@ public final class RootTest {
         Check.due("P42 no such root", () -> x.translate(6), NSEE);
         Check.due("P42 no such root", () -> x.translate(-1), NSEE);
         // By its equation, for each root and each row with a single 1.
-        Meshquiver d = Check.quiver(4, 1, 0, 0, 2, 3, 0);
         for (int i = 0; i < 12; i++) {
+            Meshquiver d = Check.quiver(4, 1, 0, 0, 2, 3, 0);
             for (int v = 0; v < 4 && d.translate(i) >= 0; v++) {
                 Check.type(d, d.root(i, 0), d.root(i, 1), d.root(i, 2), d.root(i, 3));
                 for (int w = 0; w < 4; w++) {

@@ -1072,29 +1072,16 @@ public final class TermsTest {
         }
     }
 
+    /** Each set of four of the twelve roots of a star, each in a house of its own. */
     private static void mutations() {
-        Meshquiver x = Check.quiver(4, 1, 0, 0, 2, 3, 0);
         int sets = 0;
         int moves = 0;
-        for (int set = 0; set < 1 << 12; set++) {
-            if (!x.isTilting(set)) {
-                continue;
-            }
-            sets++;
-            for (int i = 0; i < 12; i++) {
-                int index = i;
-                int from = set;
-                String told = Check.told(() -> x.mutate(from, index));
-                if ((set >> i & 1) == 0) {
-                    Check.due("not of this set", () -> told, IAE);
-                } else if (!told.equals(NSEE)) {
-                    int then = Integer.parseInt(told);
-                    moves++;
-                    Check.due("the rest stays", () -> Integer.bitCount(then & from), 3);
-                    Check.due("tilting again", () -> x.isTilting(then), true);
-                    int other = Integer.numberOfTrailingZeros(then & ~from);
-                    Check.due("and back", () -> x.mutate(then, other), from);
-                }
+        for (int i = 0; i < 1 << 12; i++) {
+            int set = i;
+            Meshquiver x = Integer.bitCount(set) == 4 ? Check.quiver(4, 1, 0, 0, 2, 3, 0) : new Meshquiver();
+            if (Integer.bitCount(set) == 4 && x.isTilting(set)) {
+                sets++;
+                moves += countMoves(x, set);
             }
         }
         int all = sets;
@@ -1102,6 +1089,25 @@ public final class TermsTest {
         Check.due("twenty sets", () -> all, 20);
         Check.due("each move has one back", () -> pairs % 2, 0);
         Check.due("some, but not all, have another root", () -> pairs > 0 && pairs < 80, true);
+    }
+
+    private static int countMoves(Meshquiver x, int set) {
+        int moves = 0;
+        for (int i = 0; i < 12; i++) {
+            int index = i;
+            String told = Check.told(() -> x.mutate(set, index));
+            if ((set >> i & 1) == 0) {
+                Check.due("not of this set", () -> told, IAE);
+            } else if (!told.equals(NSEE)) {
+                int then = Integer.parseInt(told);
+                moves++;
+                Check.due("the rest stays", () -> Integer.bitCount(then & set), 3);
+                Check.due("tilting again", () -> x.isTilting(then), true);
+                int other = Integer.numberOfTrailingZeros(then & ~set);
+                Check.due("and back", () -> x.mutate(then, other), set);
+            }
+        }
+        return moves;
     }
 
     // ---- clusters
@@ -1218,19 +1224,20 @@ public final class TermsTest {
             Check.due("22445, 21952 or 32768 ways", () -> x.stability(1), ISE);
             Check.due("no step of them", () -> x.filtration(1, 0, 0), ISE);
         }
-        Meshquiver x = Check.quiver(2, 0, 1);
-        x.projective(0);
-        for (int i = 0; i < 361; i++) {
-            int one = i / 19 - 9;
-            int two = i % 19 - 9;
-            x.weight(0, one);
-            x.weight(1, two);
-            // The simple one at 1 alone lies within; its slope is two.
-            char due = two < one ? 's' : two == one ? 'm' : 'u';
-            Check.due("weights " + one + " and " + two, () -> x.stability(0), due);
-            Check.due("its first step", () -> x.filtration(0, 0, 0), due == 'u' ? 0 : 1);
-            Check.due("its second one", () -> x.filtration(0, 1, 0), due == 'u' ? 1 : NSEE);
+        for (int i = -9; i <= 9; i++) {
+            Meshquiver y = Check.quiver(2, 0, 1);
+            y.projective(0);
+            y.weight(0, i);
+            for (int j = -9; j <= 9; j++) {
+                y.weight(1, j);
+                // The simple one at 1 alone lies within; its slope is its weight.
+                char due = j < i ? 's' : j == i ? 'm' : 'u';
+                Check.due("weights " + i + " and " + j, () -> y.stability(0), due);
+                Check.due("its first step", () -> y.filtration(0, 0, 0), due == 'u' ? 0 : 1);
+                Check.due("its second one", () -> y.filtration(0, 1, 0), due == 'u' ? 1 : NSEE);
+            }
         }
+        Meshquiver x = Check.quiver(2, 0, 1);
         Check.due("0 and itself aside", () -> x.stability(x.simple(0)), 's');
         Check.due("0 is neither", () -> x.stability(Check.module(x, 0, 0)), NSEE);
     }
