@@ -13,6 +13,22 @@ final class Picture {
         int vertices = countVertices(x);
         addQuiver(x, text, vertices);
         addModules(x, text, vertices);
+        addWeights(x, text);
+        String typed = Check.told(() -> x.type(7));
+        addRest(x, text, typed, vertices);
+        return text.toString();
+    }
+
+    /** The same with the row and the weights first, before any call that tells of other things. */
+    static String ofRow(Meshquiver x) {
+        StringBuilder text = new StringBuilder();
+        String typed = Check.told(() -> x.type(7));
+        addWeights(x, text);
+        addRest(x, text, typed, countVertices(x));
+        return text.toString();
+    }
+
+    private static void addWeights(Meshquiver x, StringBuilder text) {
         for (int i = 0; i < BEYOND; i++) {
             int v = i;
             String before = Check.told(() -> x.weight(v, 0));
@@ -21,11 +37,13 @@ final class Picture {
                 x.weight(v, Integer.parseInt(before));
             }
         }
+    }
+
+    private static void addRest(Meshquiver x, StringBuilder text, String typed, int vertices) {
         add(text, "modules", Check.told(() -> x.clearModules()));
         add(text, "field", Check.told(() -> x.field(2)));
-        addRow(x, text, vertices);
+        addRow(x, text, typed, vertices);
         addRoom(x, text);
-        return text.toString();
     }
 
     private static void add(StringBuilder text, String name, String told) {
@@ -62,6 +80,7 @@ final class Picture {
                 int v = j;
                 add(text, "dimension", Check.told(() -> x.dimension(m, v)));
             }
+            add(text, "maps", Check.told(() -> x.maps(m, m)));
             add(text, "holds", Check.told(() -> x.holds(m)));
             add(text, "pieces", Check.told(() -> x.pieces(m)));
             add(text, "piece", Check.told(() -> x.piece(m, 0, 0)));
@@ -81,8 +100,7 @@ final class Picture {
     }
 
     /** The row is told by what type() counts, and by a form for which it is filled up. */
-    private static void addRow(Meshquiver x, StringBuilder text, int before) {
-        String told = Check.told(() -> x.type(7));
+    private static void addRow(Meshquiver x, StringBuilder text, String told, int before) {
         add(text, "typed", told);
         int count = told.startsWith("throws") ? 8 : Integer.parseInt(told);
         int vertices = before;

@@ -55,6 +55,9 @@ public final class RefusalTest {
         Check.due(what, () -> call.of(x), due);
         Check.due(what + ", asked again", () -> call.of(x), due);
         Check.due(what + ", leaves all as it was", () -> Picture.of(x), Picture.of(house.made()));
+        Meshquiver other = house.made();
+        Check.told(() -> call.of(other));
+        Check.due(what + ", leaves the row as it was", () -> Picture.ofRow(other), Picture.ofRow(house.made()));
     }
 
     private static Meshquiver typed(Meshquiver x, int... numbers) {
