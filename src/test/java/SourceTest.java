@@ -13,16 +13,16 @@ import java.util.regex.Pattern;
 
 /** The face and the rules of LANGUAGE.md, as far as they can be seen without judgement. */
 public final class SourceTest {
-    private static final String FACE = "type clearRow vertex arrow zero field isFinite paths clearModules module "
-            + "entry entryAt holds simple projective injective string sum dimension rank top socle layers maps "
-            + "areAlike pieces piece syzygy extensions resolution submodules weight stability filtration bars kind "
-            + "form roots root orbit translate between mesh tilting isTilting mutate turn turned frieze checksum "
-            + "zeroShare meanDimension isConsistent";
+    private static final Path DOCUMENT = Path.of("../shared/DOC.md");
 
     public static void main(String[] args) throws IOException {
+        List<String> lines = Files.readAllLines(Path.of("src/main/java/Meshquiver.java"));
         face();
         inside();
-        text(Files.readAllLines(Path.of("src/main/java/Meshquiver.java")));
+        heads(lines);
+        groups(lines);
+        document();
+        text(lines);
         Check.finish();
     }
 
@@ -31,7 +31,7 @@ public final class SourceTest {
         Check.isTrue("public and final", Modifier.isPublic(type.getModifiers()) && Modifier.isFinal(type.getModifiers()));
         Constructor<?>[] made = type.getDeclaredConstructors();
         Check.isTrue("one constructor", made.length == 1 && Modifier.isPublic(made[0].getModifiers()));
-        Set<String> due = new HashSet<>(List.of(FACE.split(" ")));
+        Set<String> due = new HashSet<>(Face.names());
         Set<String> found = new HashSet<>();
         for (Method method : type.getDeclaredMethods()) {
             if (Modifier.isPrivate(method.getModifiers())) {
@@ -46,8 +46,48 @@ public final class SourceTest {
         Check.due("54 promises, less the constructor", () -> due.size(), 53);
     }
 
+    /** Each line of the face stands in the class: what is answered, taken and thrown, in its order. */
+    private static void heads(List<String> lines) {
+        String source = String.join(" ", lines).replaceAll("\\s+", " ");
+        for (String line : Face.LINES) {
+            String head = line.substring(0, line.length() - 1) + " {";
+            int at = source.indexOf(head);
+            Check.isTrue("as the document has it: " + line, at >= 0);
+            Check.isTrue("once: " + line, source.indexOf(head, at + 1) < 0);
+        }
+        Check.isTrue("public and final, by itself", source.contains("*/ public final class Meshquiver { "));
+        Check.due("one import ahead of all", () -> source.startsWith("import java.util.NoSuchElementException; /** "),
+                true);
+    }
+
+    private static void groups(List<String> lines) {
+        for (String group : Face.GROUPS) {
+            String title = group.substring(0, group.indexOf(": "));
+            int start = lines.indexOf("    // ---- " + title);
+            Check.isTrue("ahead of its calls: " + title, start >= 0);
+            String calls = group.substring(title.length() + 2);
+            StringBuilder found = new StringBuilder();
+            for (int i = start + 1; i < lines.size() && !lines.get(i).startsWith("    // ---- "); i++) {
+                if (lines.get(i).startsWith("    public ")) {
+                    found.append(' ').append(lines.get(i).replaceAll("\\(.*", "").replaceAll(".* ", ""));
+                }
+            }
+            Check.due("the calls behind: " + title, () -> found.toString().trim(), calls);
+        }
+    }
+
+    /** Where the document stands beside the checkout, it has the face that the tests have. */
+    private static void document() throws IOException {
+        List<String> document = Files.exists(DOCUMENT) ? Files.readAllLines(DOCUMENT) : List.of();
+        int start = document.indexOf("public final class Meshquiver {");
+        for (int i = 0; i < Face.LINES.size() && start >= 0; i++) {
+            int at = i;
+            Check.due("a line of the document", () -> document.get(start + 1 + at).trim(), Face.LINES.get(i));
+        }
+    }
+
     private static void inside() {
-        Set<String> due = new HashSet<>(List.of(FACE.split(" ")));
+        Set<String> due = new HashSet<>(Face.names());
         Class<?>[] classes = Meshquiver.class.getDeclaredClasses();
         Check.isTrue("some twelve classes", classes.length <= 11);
         for (Class<?> type : classes) {
